@@ -1,0 +1,192 @@
+/** Promises 25 to 30: what is issued while iterations overlap, and the digest. */
+final class ExecutionTest {
+    private static final Class<IndexOutOfBoundsException> INDEX = IndexOutOfBoundsException.class;
+    private static final Class<IllegalArgumentException> ARGUMENT = IllegalArgumentException.class;
+    private static final Class<IllegalStateException> STATE = IllegalStateException.class;
+    private static final int LEAST = Integer.MIN_VALUE;
+    private static final int GREATEST = Integer.MAX_VALUE;
+    private static final int[] WRONG_COUNTS = {0, 1001, -1, LEAST, GREATEST};
+
+    private static final Checks checks = new Checks("ExecutionTest");
+
+    public static void main(String[] args) {
+        cycles();
+        cyclesRefuses();
+        issued();
+        issuedRefuses();
+        issue();
+        issueOrder();
+        issueRefuses();
+        prologueAndEpilogue();
+        prologueOfManyStages();
+        digest();
+        digestOfSchedules();
+        checks.finish();
+    }
+
+    private static void cycles() {
+        LoopScheduler x = Samples.scheduledRing();
+        checks.equal("cycles(1)", x.cycles(1), 8);
+        checks.equal("cycles(10)", x.cycles(10), 44);
+        checks.equal("cycles(1000)", x.cycles(1000), 4004);
+        LoopScheduler one = Samples.operations(1, 0, 4);
+        one.schedule(9);
+        checks.equal("busy cycles do not count", one.cycles(1), 1);
+        LoopScheduler empty = new LoopScheduler();
+        empty.schedule(9);
+        checks.equal("cycles(1) without operations", empty.cycles(1), 0);
+        checks.equal("cycles(1000) without operations", empty.cycles(1000), 0);
+    }
+
+    private static void cyclesRefuses() {
+        LoopScheduler x = Samples.scheduledRing();
+        LoopScheduler none = new LoopScheduler();
+        checks.refuses("cycles without a schedule", STATE, none, () -> none.cycles(1));
+        for (int n : WRONG_COUNTS) {
+            checks.refuses("cycles of " + n, ARGUMENT, x, () -> x.cycles(n));
+            checks.refuses("cycles, all wrong", STATE, none, () -> none.cycles(n));
+        }
+        none.schedule(1);
+        checks.refuses("cycles of 0 without operations", ARGUMENT, none, () -> none.cycles(0));
+    }
+
+    private static void issued() {
+        LoopScheduler x = Samples.scheduledRing();
+        int[] due = {1, 0, 1, 0, 1, 0, 2, 1, 0, 0, 1, 1, 0};
+        for (int cycle = 0; cycle < due.length; cycle++) {
+            checks.equal("issued(2, " + cycle + ")", x.issued(2, cycle), due[cycle]);
+        }
+        checks.equal("issued in the last iteration", x.issued(1000, 3996 + 7), 1);
+        checks.equal("issued behind it", x.issued(1000, 4000), 0);
+        checks.equal("issued in the greatest cycle", x.issued(1000, GREATEST), 0);
+        LoopScheduler six = Samples.sixAtOnce();
+        six.schedule(1);
+        checks.equal("six at once", six.issued(1, 0), 6);
+        checks.equal("six at once at last", six.issued(1000, 999), 6);
+        checks.equal("six at once no more", six.issued(1000, 1000), 0);
+        LoopScheduler empty = new LoopScheduler();
+        empty.schedule(1);
+        checks.equal("issued without operations", empty.issued(5, 0), 0);
+    }
+
+    private static void issuedRefuses() {
+        LoopScheduler x = Samples.scheduledRing();
+        LoopScheduler none = Samples.ring();
+        checks.refuses("issued without a schedule", STATE, none, () -> none.issued(1, 0));
+        for (int n : WRONG_COUNTS) {
+            checks.refuses("issued of " + n, ARGUMENT, x, () -> x.issued(n, 0));
+            checks.refuses("issued, all wrong", STATE, none, () -> none.issued(n, -1));
+        }
+        checks.refuses("issued in the cycle -1", ARGUMENT, x, () -> x.issued(1, -1));
+        checks.refuses("issued in the least cycle", ARGUMENT, x, () -> x.issued(1, LEAST));
+    }
+
+    private static void issue() {
+        LoopScheduler x = Samples.scheduledRing();
+        checks.equal("issue(10, 0, 0)", x.issue(10, 0, 0), 0);
+        checks.equal("issue(10, 4, 0)", x.issue(10, 4, 0), 14);
+        checks.equal("issue(10, 6, 0)", x.issue(10, 6, 0), 2);
+        checks.equal("issue(10, 6, 1)", x.issue(10, 6, 1), 15);
+        checks.equal("issue(1, 6, 0)", x.issue(1, 6, 0), 2);
+        checks.equal("issue(1000, 4003, 0)", x.issue(1000, 4003, 0), 14 * 999 + 3);
+    }
+
+    /** Iterations go before operations: those of a later stage, whatever their numbers are, come first. */
+    private static void issueOrder() {
+        LoopScheduler x = Samples.sixAtOnce();
+        x.schedule(1);
+        x.move(0, 2);
+        x.move(3, 1);
+        x.move(5, 2);
+        int[] dueInCycle3 = {14 + 0, 14 + 5, 28 + 3, 42 + 1, 42 + 2, 42 + 4};
+        for (int index = 0; index < 6; index++) {
+            checks.equal("issue(9, 3, " + index + ")", x.issue(9, 3, index), dueInCycle3[index]);
+        }
+        int[] dueInCycle1 = {3, 14 + 1, 14 + 2, 14 + 4};
+        for (int index = 0; index < 4; index++) {
+            checks.equal("issue(9, 1, " + index + ")", x.issue(9, 1, index), dueInCycle1[index]);
+        }
+        checks.equal("the last iteration ends, first", x.issue(2, 3, 0), 14);
+        checks.equal("the last iteration ends, second", x.issue(2, 3, 1), 14 + 5);
+        checks.refuses("no third", INDEX, x, () -> x.issue(2, 3, 2));
+    }
+
+    private static void issueRefuses() {
+        LoopScheduler x = Samples.scheduledRing();
+        LoopScheduler none = Samples.ring();
+        checks.refuses("issue without a schedule", STATE, none, () -> none.issue(1, 0, 0));
+        for (int n : WRONG_COUNTS) {
+            checks.refuses("issue of " + n, ARGUMENT, x, () -> x.issue(n, 0, 0));
+            checks.refuses("issue, n and index", ARGUMENT, x, () -> x.issue(n, 0, -1));
+            checks.refuses("issue, all wrong", STATE, none, () -> none.issue(n, -1, -1));
+        }
+        checks.refuses("issue in the cycle -1", ARGUMENT, x, () -> x.issue(1, -1, 0));
+        checks.refuses("issue, cycle and index", ARGUMENT, x, () -> x.issue(1, LEAST, -1));
+        for (int index : new int[] {-1, 2, 14, LEAST, GREATEST}) {
+            checks.refuses("issue of the index " + index, INDEX, x, () -> x.issue(10, 6, index));
+        }
+        checks.refuses("issue where nothing is", INDEX, x, () -> x.issue(10, 1, 0));
+        checks.refuses("issue in the greatest cycle", INDEX, x, () -> x.issue(1000, GREATEST, 0));
+        LoopScheduler empty = new LoopScheduler();
+        empty.schedule(1);
+        checks.refuses("issue without operations", INDEX, empty, () -> empty.issue(1, 0, 0));
+    }
+
+    private static void prologueAndEpilogue() {
+        LoopScheduler x = Samples.ring();
+        checks.refuses("prologue without a schedule", STATE, x, () -> x.prologue());
+        checks.refuses("epilogue without a schedule", STATE, x, () -> x.epilogue());
+        x.schedule(9);
+        checks.equal("prologue of the ring", x.prologue(), 2);
+        checks.equal("epilogue of the ring", x.epilogue(), 2);
+        LoopScheduler six = Samples.sixAtOnce();
+        six.schedule(1);
+        checks.equal("prologue of one stage", six.prologue(), 0);
+        checks.equal("epilogue of one stage", six.epilogue(), 0);
+        six.move(2, 3);
+        six.move(4, 1);
+        checks.equal("prologue of four stages", six.prologue(), 14);
+        checks.equal("epilogue of four stages", six.epilogue(), 4);
+        LoopScheduler empty = new LoopScheduler();
+        empty.schedule(9);
+        checks.equal("prologue without operations", empty.prologue(), 0);
+        checks.equal("epilogue without operations", empty.epilogue(), 0);
+    }
+
+    private static void prologueOfManyStages() {
+        LoopScheduler x = Samples.sixAtOnce();
+        x.schedule(1);
+        x.move(1, 1000);
+        checks.equal("stages", x.stages(), 1001);
+        checks.equal("prologue of 1000 cycles", x.prologue(), 5000);
+        checks.equal("epilogue of 1001 iterations", x.epilogue(), 1000);
+    }
+
+    private static void digest() {
+        LoopScheduler x = new LoopScheduler();
+        checks.equal("digest of nothing, written out", x.digest(), 79L * 31 * 31 * 31 * 31 * 31 * 31
+                + 31L * 31 * 31 * 31 * 31 + 31L * 31 * 31 * 31 + 31L * 31 * 31);
+        x.schedule(9);
+        checks.equal("digest of an empty schedule", x.digest(), Checks.digestOf(1, 1, 1, 0, 0, 1));
+        LoopScheduler ring = Samples.ring();
+        checks.equal("digest of the ring", ring.digest(), Checks.digestOf(1, 1, 1, 4, 0, 1, 1, 2, 2, 1, 0, 1,
+                4, 0, 1, 2, 0, 1, 2, 4, 0, 2, 3, 1, 0, 3, 0, 1, 2, 0));
+        ring.schedule(20);
+        ring.setUnits(0, 2);
+        checks.equal("a digest that was given", ring.digest(), 1215891592070459029L);
+    }
+
+    private static void digestOfSchedules() {
+        LoopScheduler x = Samples.operations(2, 2, 3);
+        x.schedule(9);
+        checks.equal("digest with times", x.digest(), Checks.digestOf(1, 1, 1, 2, 2, 3, 2, 3, 0, 6, 0, 3));
+        x.move(1, 9);
+        checks.equal("digest after a move", x.digest(), Checks.digestOf(1, 1, 1, 2, 2, 3, 2, 3, 0, 6, 0, 9));
+        x.schedule(5);
+        checks.equal("digest without a schedule", x.digest(), Checks.digestOf(1, 1, 1, 2, 2, 3, 2, 3, 0, 0));
+        x.schedule(6);
+        x.schedule(7);
+        checks.equal("digest does not count attempts", x.digest(),
+                Checks.digestOf(1, 1, 1, 2, 2, 3, 2, 3, 0, 6, 0, 3));
+    }
+}
