@@ -426,11 +426,11 @@ public final class LoopScheduler {
             return sum;
         }
 
-        /** A longer interval makes no sum greater, so the intervals that are too short can be halved. */
         int leastIntervalOfRecurrences() {
+            // A longer interval makes no sum greater, so the greatest one that is too short is found by halving.
             int tooShort = 0;
             for (int step = 128; step > 0; step /= 2) {
-                if (tooShort + step <= MOST_INTERVAL && !findHeights(tooShort + step)) {
+                if (!findHeights(tooShort + step)) {
                     tooShort += step;
                 }
             }

@@ -19,6 +19,7 @@ final class ExecutionTest {
         issueRefuses();
         prologueAndEpilogue();
         prologueOfManyStages();
+        fullLoop();
         digest();
         digestOfSchedules();
         checks.finish();
@@ -147,6 +148,9 @@ final class ExecutionTest {
         six.move(4, 1);
         checks.equal("prologue of four stages", six.prologue(), 14);
         checks.equal("epilogue of four stages", six.epilogue(), 4);
+        six.move(0, 2);
+        checks.equal("prologue when the first is later", six.prologue(), 12);
+        checks.equal("epilogue when the first is later", six.epilogue(), 6);
         LoopScheduler empty = new LoopScheduler();
         empty.schedule(9);
         checks.equal("prologue without operations", empty.prologue(), 0);
@@ -160,6 +164,31 @@ final class ExecutionTest {
         checks.equal("stages", x.stages(), 1001);
         checks.equal("prologue of 1000 cycles", x.prologue(), 5000);
         checks.equal("epilogue of 1001 iterations", x.epilogue(), 1000);
+    }
+
+    /** 14 operations in a chain with the delay 1, told by 40 dependences, at the interval 5. */
+    private static void fullLoop() {
+        LoopScheduler x = Samples.operations(14, 0, 1);
+        x.setUnits(0, 3);
+        for (int k = 0; k < 40; k++) {
+            x.addDependence(k % 13, k % 13 + 1, 1, 0);
+        }
+        checks.equal("schedule of the chain", x.schedule(200), 5);
+        checks.equal("its last time", x.time(13), 13);
+        checks.equal("its height", x.height(0, 1), 13);
+        checks.equal("its registers", x.registers(), 3);
+        checks.equal("its stages", x.stages(), 3);
+        checks.equal("its prologue", x.prologue(), 5 + 10);
+        checks.equal("its epilogue", x.epilogue(), 5 + 8);
+        checks.equal("its cycles", x.cycles(2), 19);
+        checks.equal("issued at once", x.issued(9, 13), 3);
+        checks.equal("the oldest first", x.issue(9, 13, 0), 13);
+        checks.equal("the next", x.issue(9, 13, 1), 14 + 8);
+        checks.equal("the newest last", x.issue(9, 13, 2), 28 + 3);
+        checks.equal("freedom in the chain", x.freedom(7), 1);
+        checks.equal("freedom at its end", x.freedom(13), 396);
+        checks.isFalse("a move to a full row", x.move(13, 1000));
+        checks.isTrue("a move at its end", x.move(13, 999));
     }
 
     private static void digest() {
@@ -184,6 +213,11 @@ final class ExecutionTest {
         checks.equal("digest after a move", x.digest(), Checks.digestOf(1, 1, 1, 2, 2, 3, 2, 3, 0, 6, 0, 9));
         x.schedule(5);
         checks.equal("digest without a schedule", x.digest(), Checks.digestOf(1, 1, 1, 2, 2, 3, 2, 3, 0, 0));
+        LoopScheduler six = Samples.sixAtOnce();
+        six.schedule(1);
+        six.move(5, 8);
+        checks.equal("digest at the interval 1", six.digest(), Checks.digestOf(2, 2, 2, 6,
+                0, 1, 1, 1, 2, 1, 0, 1, 1, 1, 2, 1, 0, 1, 0, 0, 0, 0, 0, 8));
         x.schedule(6);
         x.schedule(7);
         checks.equal("digest does not count attempts", x.digest(),

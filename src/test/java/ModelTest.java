@@ -55,14 +55,15 @@ final class ModelTest {
 
     private void run() {
         boolean lowUnits = chance(50);
-        int operations = pick(0, chance(20) ? 14 : 8);
+        boolean full = chance(10);
+        int operations = full ? 17 : pick(0, chance(20) ? 14 : 8);
         for (int i = 0; i < operations; i++) {
             addOperation();
         }
         for (int kind = 0; kind < 3 && !lowUnits; kind++) {
             setUnits();
         }
-        int dependences = pick(0, 2 * operations);
+        int dependences = full ? 48 : pick(0, 2 * operations);
         for (int k = 0; k < dependences; k++) {
             addDependence();
         }

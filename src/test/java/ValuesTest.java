@@ -107,6 +107,10 @@ final class ValuesTest {
         LoopScheduler y = fan();
         y.move(2, 1000);
         checks.equal("registers after a move", y.registers(), 501);
+        LoopScheduler first = Samples.operations(3, 0, 1);
+        first.addDependence(0, 1, 1, 0);
+        first.schedule(9);
+        checks.equal("registers, most in row 0", first.registers(), 1);
         LoopScheduler empty = new LoopScheduler();
         empty.schedule(7);
         checks.equal("registers without operations", empty.registers(), 0);
