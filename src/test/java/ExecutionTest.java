@@ -185,6 +185,7 @@ final class ExecutionTest {
         checks.equal("the oldest first", x.issue(9, 13, 0), 13);
         checks.equal("the next", x.issue(9, 13, 1), 14 + 8);
         checks.equal("the newest last", x.issue(9, 13, 2), 28 + 3);
+        checks.refuses("no fourth", INDEX, x, () -> x.issue(9, 13, 3));
         checks.equal("freedom in the chain", x.freedom(7), 1);
         checks.equal("freedom at its end", x.freedom(13), 396);
         checks.isFalse("a move to a full row", x.move(13, 1000));
