@@ -1,8 +1,5 @@
 /** Promises 8 to 10: both bounds and the heights. */
 final class BoundsTest {
-    private static final Class<IndexOutOfBoundsException> INDEX = IndexOutOfBoundsException.class;
-    private static final Class<IllegalArgumentException> ARGUMENT = IllegalArgumentException.class;
-
     private static final Checks checks = new Checks("BoundsTest");
 
     public static void main(String[] args) {
@@ -12,7 +9,6 @@ final class BoundsTest {
         greatestRecurrenceBound();
         noRecurrenceBound();
         height();
-        heightRefuses();
         checks.finish();
     }
 
@@ -113,23 +109,5 @@ final class BoundsTest {
         checks.equal("height over a distance at 6", y.height(2, 6), 1);
         checks.equal("height is never less than 0", y.height(2, 8), 0);
         checks.equal("height of the last", y.height(3, 1), 0);
-    }
-
-    private static void heightRefuses() {
-        LoopScheduler x = Samples.scheduledRing();
-        for (int i : new int[] {-1, 4, 14, Integer.MIN_VALUE, Integer.MAX_VALUE}) {
-            checks.refuses("height of " + i, INDEX, x, () -> x.height(i, 4));
-            checks.refuses("height, both wrong", INDEX, x, () -> x.height(i, 3));
-        }
-        for (int interval : new int[] {3, 0, -1, 201, Integer.MIN_VALUE, Integer.MAX_VALUE}) {
-            checks.refuses("height at " + interval, ARGUMENT, x, () -> x.height(0, interval));
-        }
-        LoopScheduler none = Samples.impossiblePair();
-        checks.equal("height below the resource bound", none.height(0, 1), 0);
-        none.setDelay(0, 1);
-        for (int interval : new int[] {-1, 0, 1, 200}) {
-            checks.refuses("height without a bound", ARGUMENT, none, () -> none.height(0, interval));
-        }
-        checks.refuses("height without a bound and operation", INDEX, none, () -> none.height(2, 1));
     }
 }

@@ -5,6 +5,16 @@ final class Checks {
         long answer();
     }
 
+    /** A call of the object given. */
+    interface CallOf {
+        long answer(LoopScheduler x);
+    }
+
+    /** Makes an object, the same one each time. */
+    interface Maker {
+        LoopScheduler make();
+    }
+
     private final String name;
     private int passed;
     private int failed;
@@ -34,11 +44,22 @@ final class Checks {
         }
     }
 
-    /** The call must throw just this class, and the object must answer afterwards as it did before. */
-    void refuses(String what, Class<? extends RuntimeException> due, LoopScheduler x, Call call) {
+    /**
+     * The call must throw just this class, and the object must answer afterwards as it did before. Each time it is
+     * asked of a new object, for what an object answers after its 512th call is free.
+     */
+    void refuses(String what, Class<? extends RuntimeException> due, Maker maker, CallOf call) {
+        LoopScheduler x = maker.make();
         String before = everything(x);
-        same(what, outcome(call), "throws." + due.getSimpleName());
+        same(what, outcome(() -> call.answer(x)), "throws." + due.getSimpleName());
         same(what + " changes nothing", everything(x), before);
+    }
+
+    /** The times of the operations from 0 on. */
+    void times(String what, LoopScheduler x, int... due) {
+        for (int i = 0; i < due.length; i++) {
+            equal(what + ", time of " + i, x.time(i), due[i]);
+        }
     }
 
     /** What a call answers, or which exception it throws; one that no throw statement threw is told as the machine's. */

@@ -1,22 +1,14 @@
 /** Promises 25 to 30: what is issued while iterations overlap, and the digest. */
 final class ExecutionTest {
-    private static final Class<IndexOutOfBoundsException> INDEX = IndexOutOfBoundsException.class;
-    private static final Class<IllegalArgumentException> ARGUMENT = IllegalArgumentException.class;
-    private static final Class<IllegalStateException> STATE = IllegalStateException.class;
-    private static final int LEAST = Integer.MIN_VALUE;
     private static final int GREATEST = Integer.MAX_VALUE;
-    private static final int[] WRONG_COUNTS = {0, 1001, -1, LEAST, GREATEST};
 
     private static final Checks checks = new Checks("ExecutionTest");
 
     public static void main(String[] args) {
         cycles();
-        cyclesRefuses();
         issued();
-        issuedRefuses();
         issue();
         issueOrder();
-        issueRefuses();
         prologueAndEpilogue();
         prologueOfManyStages();
         fullLoop();
@@ -39,18 +31,6 @@ final class ExecutionTest {
         checks.equal("cycles(1000) without operations", empty.cycles(1000), 0);
     }
 
-    private static void cyclesRefuses() {
-        LoopScheduler x = Samples.scheduledRing();
-        LoopScheduler none = new LoopScheduler();
-        checks.refuses("cycles without a schedule", STATE, none, () -> none.cycles(1));
-        for (int n : WRONG_COUNTS) {
-            checks.refuses("cycles of " + n, ARGUMENT, x, () -> x.cycles(n));
-            checks.refuses("cycles, all wrong", STATE, none, () -> none.cycles(n));
-        }
-        none.schedule(1);
-        checks.refuses("cycles of 0 without operations", ARGUMENT, none, () -> none.cycles(0));
-    }
-
     private static void issued() {
         LoopScheduler x = Samples.scheduledRing();
         int[] due = {1, 0, 1, 0, 1, 0, 2, 1, 0, 0, 1, 1, 0};
@@ -68,18 +48,6 @@ final class ExecutionTest {
         LoopScheduler empty = new LoopScheduler();
         empty.schedule(1);
         checks.equal("issued without operations", empty.issued(5, 0), 0);
-    }
-
-    private static void issuedRefuses() {
-        LoopScheduler x = Samples.scheduledRing();
-        LoopScheduler none = Samples.ring();
-        checks.refuses("issued without a schedule", STATE, none, () -> none.issued(1, 0));
-        for (int n : WRONG_COUNTS) {
-            checks.refuses("issued of " + n, ARGUMENT, x, () -> x.issued(n, 0));
-            checks.refuses("issued, all wrong", STATE, none, () -> none.issued(n, -1));
-        }
-        checks.refuses("issued in the cycle -1", ARGUMENT, x, () -> x.issued(1, -1));
-        checks.refuses("issued in the least cycle", ARGUMENT, x, () -> x.issued(1, LEAST));
     }
 
     private static void issue() {
@@ -109,34 +77,10 @@ final class ExecutionTest {
         }
         checks.equal("the last iteration ends, first", x.issue(2, 3, 0), 14);
         checks.equal("the last iteration ends, second", x.issue(2, 3, 1), 14 + 5);
-        checks.refuses("no third", INDEX, x, () -> x.issue(2, 3, 2));
-    }
-
-    private static void issueRefuses() {
-        LoopScheduler x = Samples.scheduledRing();
-        LoopScheduler none = Samples.ring();
-        checks.refuses("issue without a schedule", STATE, none, () -> none.issue(1, 0, 0));
-        for (int n : WRONG_COUNTS) {
-            checks.refuses("issue of " + n, ARGUMENT, x, () -> x.issue(n, 0, 0));
-            checks.refuses("issue, n and index", ARGUMENT, x, () -> x.issue(n, 0, -1));
-            checks.refuses("issue, all wrong", STATE, none, () -> none.issue(n, -1, -1));
-        }
-        checks.refuses("issue in the cycle -1", ARGUMENT, x, () -> x.issue(1, -1, 0));
-        checks.refuses("issue, cycle and index", ARGUMENT, x, () -> x.issue(1, LEAST, -1));
-        for (int index : new int[] {-1, 2, 14, LEAST, GREATEST}) {
-            checks.refuses("issue of the index " + index, INDEX, x, () -> x.issue(10, 6, index));
-        }
-        checks.refuses("issue where nothing is", INDEX, x, () -> x.issue(10, 1, 0));
-        checks.refuses("issue in the greatest cycle", INDEX, x, () -> x.issue(1000, GREATEST, 0));
-        LoopScheduler empty = new LoopScheduler();
-        empty.schedule(1);
-        checks.refuses("issue without operations", INDEX, empty, () -> empty.issue(1, 0, 0));
     }
 
     private static void prologueAndEpilogue() {
         LoopScheduler x = Samples.ring();
-        checks.refuses("prologue without a schedule", STATE, x, () -> x.prologue());
-        checks.refuses("epilogue without a schedule", STATE, x, () -> x.epilogue());
         x.schedule(9);
         checks.equal("prologue of the ring", x.prologue(), 2);
         checks.equal("epilogue of the ring", x.epilogue(), 2);
@@ -166,13 +110,8 @@ final class ExecutionTest {
         checks.equal("epilogue of 1001 iterations", x.epilogue(), 1000);
     }
 
-    /** 14 operations in a chain with the delay 1, told by 40 dependences, at the interval 5. */
     private static void fullLoop() {
-        LoopScheduler x = Samples.operations(14, 0, 1);
-        x.setUnits(0, 3);
-        for (int k = 0; k < 40; k++) {
-            x.addDependence(k % 13, k % 13 + 1, 1, 0);
-        }
+        LoopScheduler x = Samples.fullLoop();
         checks.equal("schedule of the chain", x.schedule(200), 5);
         checks.equal("its last time", x.time(13), 13);
         checks.equal("its height", x.height(0, 1), 13);
@@ -185,7 +124,6 @@ final class ExecutionTest {
         checks.equal("the oldest first", x.issue(9, 13, 0), 13);
         checks.equal("the next", x.issue(9, 13, 1), 14 + 8);
         checks.equal("the newest last", x.issue(9, 13, 2), 28 + 3);
-        checks.refuses("no fourth", INDEX, x, () -> x.issue(9, 13, 3));
         checks.equal("freedom in the chain", x.freedom(7), 1);
         checks.equal("freedom at its end", x.freedom(13), 396);
         checks.isFalse("a move to a full row", x.move(13, 1000));

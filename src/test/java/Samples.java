@@ -52,4 +52,42 @@ final class Samples {
         }
         return x;
     }
+
+    /** The pair with a closed way over the distance 0 whose sum is 1: it has no recurrence bound. */
+    static LoopScheduler endlessPair() {
+        LoopScheduler x = impossiblePair();
+        x.setDelay(1, 1);
+        return x;
+    }
+
+    /** No operations, and the schedule of that: the interval 1. */
+    static LoopScheduler scheduledNothing() {
+        LoopScheduler x = new LoopScheduler();
+        x.schedule(1);
+        return x;
+    }
+
+    /** The six with their schedule. */
+    static LoopScheduler scheduledSix() {
+        LoopScheduler x = sixAtOnce();
+        x.schedule(1);
+        return x;
+    }
+
+    /** 14 operations in a chain with the delay 1, told by 40 dependences; three of them can begin in a row. */
+    static LoopScheduler fullLoop() {
+        LoopScheduler x = operations(14, 0, 1);
+        x.setUnits(0, 3);
+        for (int k = 0; k < 40; k++) {
+            x.addDependence(k % 13, k % 13 + 1, 1, 0);
+        }
+        return x;
+    }
+
+    /** The full loop with its schedule: the interval 5, and for each operation its number as its time. */
+    static LoopScheduler scheduledFullLoop() {
+        LoopScheduler x = fullLoop();
+        x.schedule(200);
+        return x;
+    }
 }

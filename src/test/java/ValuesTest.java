@@ -1,20 +1,12 @@
 /** Promises 20 to 24: lifetimes, what lives in a row, registers, copies and the unrolling. */
 final class ValuesTest {
-    private static final Class<IndexOutOfBoundsException> INDEX = IndexOutOfBoundsException.class;
-    private static final Class<IllegalArgumentException> ARGUMENT = IllegalArgumentException.class;
-    private static final Class<IllegalStateException> STATE = IllegalStateException.class;
-    private static final int[] NO_OPERATIONS = {-1, 4, 14, Integer.MIN_VALUE, Integer.MAX_VALUE};
-
     private static final Checks checks = new Checks("ValuesTest");
 
     public static void main(String[] args) {
         lifetime();
-        lifetimeRefuses();
         live();
-        liveRefuses();
         registers();
         copies();
-        copiesRefuses();
         unrolling();
         greatUnrolling();
         checks.finish();
@@ -55,16 +47,6 @@ final class ValuesTest {
         checks.equal("a use at once", same.lifetime(0), 0);
     }
 
-    private static void lifetimeRefuses() {
-        LoopScheduler x = Samples.ring();
-        checks.refuses("lifetime without a schedule", STATE, x, () -> x.lifetime(0));
-        checks.refuses("lifetime of none without a schedule", INDEX, x, () -> x.lifetime(4));
-        x.schedule(9);
-        for (int i : NO_OPERATIONS) {
-            checks.refuses("lifetime of " + i, INDEX, x, () -> x.lifetime(i));
-        }
-    }
-
     private static void live() {
         LoopScheduler ring = Samples.scheduledRing();
         int[] dueInRing = {2, 2, 2, 2};
@@ -88,19 +70,8 @@ final class ValuesTest {
         checks.equal("no use, no life", idle.live(0) + idle.live(1) + idle.live(2), 0);
     }
 
-    private static void liveRefuses() {
-        LoopScheduler x = Samples.ring();
-        checks.refuses("live without a schedule", STATE, x, () -> x.live(0));
-        checks.refuses("live without a schedule and row", STATE, x, () -> x.live(-1));
-        x.schedule(9);
-        for (int row : new int[] {-1, 4, 200, Integer.MIN_VALUE, Integer.MAX_VALUE}) {
-            checks.refuses("live in row " + row, ARGUMENT, x, () -> x.live(row));
-        }
-    }
-
     private static void registers() {
         LoopScheduler x = Samples.ring();
-        checks.refuses("registers without a schedule", STATE, x, () -> x.registers());
         x.schedule(9);
         checks.equal("registers of the ring", x.registers(), 2);
         checks.equal("registers of the fan", fan().registers(), 4);
@@ -130,19 +101,8 @@ final class ValuesTest {
         checks.equal("copies for 10 by 4", x.copies(1), 3);
     }
 
-    private static void copiesRefuses() {
-        LoopScheduler x = Samples.ring();
-        checks.refuses("copies without a schedule", STATE, x, () -> x.copies(0));
-        checks.refuses("copies of none without a schedule", INDEX, x, () -> x.copies(4));
-        x.schedule(9);
-        for (int i : NO_OPERATIONS) {
-            checks.refuses("copies of " + i, INDEX, x, () -> x.copies(i));
-        }
-    }
-
     private static void unrolling() {
         LoopScheduler x = Samples.ring();
-        checks.refuses("unrolling without a schedule", STATE, x, () -> x.unrolling());
         x.schedule(9);
         checks.equal("unrolling of the ring", x.unrolling(), 1);
         checks.equal("unrolling of the fan", fan().unrolling(), 2);
