@@ -508,7 +508,7 @@ public final class LoopScheduler {
 
         private boolean placeAtFirst(int operation) {
             int earliest = earliestAllowed(operation);
-            int last = Math.min(latestAllowed(operation), earliest + interval - 1);
+            int last = latestAllowed(operation, earliest + interval - 1);
             for (int time = earliest; time <= last; time++) {
                 if (hasUnits(operation, time)) {
                     place(operation, time);
@@ -529,8 +529,9 @@ public final class LoopScheduler {
             return earliest;
         }
 
-        private int latestAllowed(int operation) {
-            int latest = Integer.MAX_VALUE;
+        /** At most the limit, which stands where no dependence asks for less. */
+        private int latestAllowed(int operation, int limit) {
+            int latest = limit;
             for (int k = 0; k < loop.dependences; k++) {
                 int target = loop.targets[k];
                 if (loop.sources[k] == operation && times[target] != NONE) {
@@ -572,7 +573,7 @@ public final class LoopScheduler {
         boolean replace(int operation, int time) {
             int before = times[operation];
             lift(operation);
-            boolean valid = time >= earliestAllowed(operation) && time <= latestAllowed(operation)
+            boolean valid = time >= earliestAllowed(operation) && time <= latestAllowed(operation, MOST_TIME)
                     && hasUnits(operation, time);
             place(operation, valid ? time : before);
             return valid;
@@ -581,7 +582,7 @@ public final class LoopScheduler {
         int countPlaces(int operation) {
             int before = times[operation];
             lift(operation);
-            int last = Math.min(latestAllowed(operation), MOST_TIME);
+            int last = latestAllowed(operation, MOST_TIME);
             int count = 0;
             for (int time = earliestAllowed(operation); time <= last; time++) {
                 if (hasUnits(operation, time)) {
